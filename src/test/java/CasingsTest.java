@@ -57,6 +57,11 @@ public final class CasingsTest {
         Grounds.fill(x, 1, 150, 150, 250, 150);
         c.due("to the PIECE ahead of the step", x.plan(2), 18);
         c.due("one MUD does not HOLD it", x.plan(3), NOT);
+        x.string(1, 50);
+        x.put(1, 2, 0, 99);
+        c.due("no MUD HOLDS the first PIECE", x.plan(2), NOT);
+        c.due("nor it alone", x.plan(1), NOT);
+        c.due("SHOE of no plan", x.shoe(2, 0), NOT);
     }
 
     /** Ground of three layers, so that a PLAN to 9 needs SHOES between them. */

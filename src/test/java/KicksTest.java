@@ -108,6 +108,7 @@ public final class KicksTest {
         c.due("HEIGHT by CAP", x.gas(7, HEIGHT), 1);
         c.due("CHOKE is 0 at least", x.gas(7, CHOKE), 0);
         c.due("at the SHOE by the MUD alone", x.gas(7, AT_SHOE), 1200);
+        c.due("just above the gas", x.gas(4, AT_SHOE), 1200);
         c.due("in the gas", x.gas(3, AT_SHOE), 1);
         c.due("below the gas it may be below 0", x.gas(2, AT_SHOE), 1000 - 400 * 7);
         x.hole(50, 0);
@@ -173,6 +174,12 @@ public final class KicksTest {
         c.due("at the bottom", x.broken(), 20);
         x.hole(20, 0);
         c.due("no SHOE", x.broken(), DeepHole.NONE);
+        x.hole(10, 1);
+        x.kick(1, 100, 0);
+        Grounds.fill(x, 1, 999, 3000);
+        c.due("SHOE 1", x.broken(), 10);
+        x.put(1, 2, 0, 1000);
+        c.due("SHOE 1, just not", x.broken(), DeepHole.NONE);
     }
 
     private static void bears() {
@@ -196,8 +203,16 @@ public final class KicksTest {
         c.due("the latest kick stays", x.gas(20, VOLUME), most + 1);
         x.bears(1, 1);
         c.due("and after bears()", x.gas(20, G), 2800);
-        x.put(1, 2, 0, 0);
+        // With CAP 1 a VOLUME 1 brings 1480 to the SHOE, 185 times 8, and 2 brings 1720.
+        x.cap(1);
+        x.put(1, 2, 0, 185);
+        c.due("1 alone", x.bears(140, 120), 1);
+        x.put(1, 2, 0, 215);
+        c.due("2", x.bears(140, 120), 2);
+        x.put(1, 2, 0, 184);
         c.due("not even 1", x.bears(140, 120), 0);
+        x.put(1, 2, 0, 0);
+        c.due("ground that bears nothing", x.bears(140, 120), 0);
         x.hole(20, 0);
         c.due("no SHOE", x.bears(3000, 0), 1000);
     }
