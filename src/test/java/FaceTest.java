@@ -108,7 +108,8 @@ public final class FaceTest {
         }
         Matcher imported = Pattern.compile("import ([^;]*);").matcher(code);
         while (imported.find()) {
-            CHECK.holds("import " + imported.group(1), imported.group(1).matches("java\\.util\\.(Arrays|ArrayList|List)"));
+            String name = imported.group(1);
+            CHECK.holds("import " + name, name.matches("java\\.util\\.(Arrays|ArrayList|List)"));
         }
     }
 }

@@ -19,7 +19,8 @@ public final class GroundTest {
         c.due("depth", x.count(0), 50);
         c.due("shoe", x.count(1), 50);
         c.due("hole(20, 5)", x.hole(20, 5), 1);
-        int[][] wrong = {{51, 0}, {-1, 0}, {-1, -1}, {5, 6}, {5, -1}, {0, 1}, {Integer.MAX_VALUE, 0}, {Integer.MIN_VALUE, 0}};
+        int[][] wrong = {{51, 0}, {-1, 0}, {-1, -1}, {5, 6}, {5, -1}, {0, 1}, {Integer.MAX_VALUE, 0},
+            {Integer.MIN_VALUE, 0}};
         for (int[] w : wrong) {
             c.due("hole(" + w[0] + ", " + w[1] + ")", x.hole(w[0], w[1]), BAD);
         }

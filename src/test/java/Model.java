@@ -2,8 +2,8 @@ import java.util.ArrayList;
 import java.util.List;
 
 /**
- * The document's words in their most literal form, as slow as may be: rows of the FORMS themselves, all PLANS, all MUDS,
- * all VOLUMES. It shares no way of reckoning with DeepHole, so that both are hardly wrong in the same way.
+ * The document's words in their most literal form, as slow as may be: rows of the FORMS themselves, all PLANS, all
+ * MUDS, all VOLUMES. It shares no way of reckoning with DeepHole, so that both are hardly wrong in the same way.
  */
 final class Model {
     private static final int[] C = {65, 63, 60, 56, 52, 39, 33, 25, 16, 0};
@@ -553,7 +553,10 @@ final class Model {
     }
 
     private long digest() {
-        List<Integer> all = new ArrayList<>(List.of(count(0), count(1), count(2), count(3), count(4), count(6), count(7)));
+        List<Integer> all = new ArrayList<>();
+        for (int what : new int[] {0, 1, 2, 3, 4, 6, 7}) {
+            all.add(count(what));
+        }
         for (int i = 0; i < 50; i++) {
             all.add(ground(0, i));
             all.add(ground(1, i));

@@ -51,14 +51,11 @@ public final class ModelTest {
     }
 
     private boolean call(String name, int... a) {
-        StringBuilder text = new StringBuilder(name).append('(');
-        for (int i = 0; i < a.length; i++) {
-            text.append(i == 0 ? "" : ", ").append(a[i]);
-        }
-        calls.add(text.append(')').toString());
+        String text = Calls.text(name, a);
+        calls.add(text);
         long want = model.answer(name, a);
-        long got = answer(name, a);
-        check.due(text.toString(), got, want);
+        long got = Calls.answer(hole, name, a);
+        check.due(text, got, want);
         return got == want;
     }
 
@@ -98,6 +95,14 @@ public final class ModelTest {
         return lot.nextInt(4) == 0 ? in(least, greatest) : least + lot.nextInt(usual);
     }
 
+    private int side() {
+        return lot.nextInt(20) == 0 ? in(-1, 1) : lot.nextInt(2) * 2 - 1;
+    }
+
+    private int item() {
+        return lot.nextInt(5) == 0 ? lot.nextInt() : in(0, 3000);
+    }
+
     private int[] arguments(String name) {
         switch (name) {
             case "hole": return new int[] {in(0, 50), lot.nextInt(2) == 0 ? in(0, 50) : in(0, 8)};
@@ -119,7 +124,7 @@ public final class ModelTest {
             case "ends": return new int[] {in(0, 9), in(0, 1000), in(1, 1000)};
             case "free": case "where": return new int[] {in(0, 1)};
             case "begin": return new int[] {in(0, 1), lot.nextInt(3) == 0 ? in(-100000, 100000) : in(-200, 200)};
-            case "station": return new int[] {in(0, 1), in(0, 9), lot.nextInt(20) == 0 ? in(-1, 1) : lot.nextInt(2) * 2 - 1};
+            case "station": return new int[] {in(0, 1), in(0, 9), side()};
             case "place": return new int[] {in(0, 1), in(0, 20), in(0, 1)};
             default: return sheetArguments(name);
         }
@@ -129,57 +134,11 @@ public final class ModelTest {
         switch (name) {
             case "sheet": return new int[] {in(0, 3), in(0, 2), in(0, 60)};
             case "lose": return new int[] {in(0, 3)};
-            case "put": return new int[] {in(0, 3), in(0, 2), in(0, 59), lot.nextInt(5) == 0 ? lot.nextInt() : in(0, 3000)};
+            case "put": return new int[] {in(0, 3), in(0, 2), in(0, 59), item()};
             case "get": return new int[] {in(0, 3), in(0, 2), in(0, 59)};
             case "copy": return new int[] {in(0, 3), in(0, 20), in(0, 3), in(0, 20), in(0, 20)};
             case "count": return new int[] {in(0, 7)};
             default: return new int[0];
-        }
-    }
-
-    private long answer(String name, int[] a) {
-        switch (name) {
-            case "hole": return hole.hole(a[0], a[1]);
-            case "margins": return hole.margins(a[0], a[1]);
-            case "ground": return hole.ground(a[0], a[1]);
-            case "breaks": return hole.breaks(a[0]);
-            case "window": return hole.window(a[0], a[1], a[2]);
-            case "string": return hole.string(a[0], a[1]);
-            case "bare": return hole.bare();
-            case "plan": return hole.plan(a[0]);
-            case "shoe": return hole.shoe(a[0], a[1]);
-            case "cap": return hole.cap(a[0]);
-            case "kick": return hole.kick(a[0], a[1], a[2]);
-            case "gas": return hole.gas(a[0], a[1]);
-            case "broken": return hole.broken();
-            case "bears": return hole.bears(a[0], a[1]);
-            case "swab": return hole.swab(a[0]);
-            case "speed": return hole.speed(a[0], a[1]);
-            case "trip": return hole.trip(a[0]);
-            case "lightest": return hole.lightest(a[0]);
-            default: return answerOfTheRest(name, a);
-        }
-    }
-
-    private long answerOfTheRest(String name, int[] a) {
-        switch (name) {
-            case "pull": return hole.pull(a[0], a[1]);
-            case "slack": return hole.slack();
-            case "ends": return hole.ends(a[0], a[1], a[2]);
-            case "free": return hole.free(a[0]);
-            case "begin": return hole.begin(a[0], a[1]);
-            case "station": return hole.station(a[0], a[1], a[2]);
-            case "place": return hole.place(a[0], a[1], a[2]);
-            case "nearest": return hole.nearest();
-            case "where": return hole.where(a[0]);
-            case "sheet": return hole.sheet(a[0], a[1], a[2]);
-            case "lose": return hole.lose(a[0]);
-            case "put": return hole.put(a[0], a[1], a[2], a[3]);
-            case "get": return hole.get(a[0], a[1], a[2]);
-            case "copy": return hole.copy(a[0], a[1], a[2], a[3], a[4]);
-            case "count": return hole.count(a[0]);
-            case "digest": return hole.digest();
-            default: throw new IllegalArgumentException(name);
         }
     }
 }
