@@ -12,6 +12,9 @@ public final class DeepHole {
     private static final int HOLES = 2;
     private static final int SHEETS = 4;
 
+    private static final int LEAST_INT = 0x80000000, GREATEST_INT = 0x7fffffff;
+    private static final long LEAST_LONG = 0x8000000000000000L, GREATEST_LONG = 0x7fffffffffffffffL;
+
     private static final int FOUND_NULL = 1, FOUND_INDEX = 2, FOUND_CAST = 3, FOUND_STORE = 4, FOUND_SIZE = 5;
 
     private final Sheet[] sheets = new Sheet[SHEETS];
@@ -217,7 +220,7 @@ public final class DeepHole {
         if (pulls.number == 0) {
             return refusal(NOT);
         }
-        span.become(0, Long.MAX_VALUE);
+        span.become(0, GREATEST_LONG);
         pulls.narrow(span);
         return span.isEmpty() ? refusal(NOT) : span.end(end);
     }
@@ -242,7 +245,7 @@ public final class DeepHole {
 
     public int place(int hole, int i, int what) {
         if (!isHole(hole) || !within(i, 0, paths[hole].stations) || !within(what, 0, 1)) {
-            return Integer.MIN_VALUE;
+            return LEAST_INT;
         }
         return what == 0 ? paths[hole].xs[i] : paths[hole].ys[i];
     }
@@ -300,12 +303,12 @@ public final class DeepHole {
 
     public int get(int s, int form, int i) {
         if (!isSheet(s) || !isForm(form)) {
-            return Integer.MIN_VALUE;
+            return LEAST_INT;
         }
         int wrong = sheets[s].wrongWith(form, i);
         if (wrong != 0) {
             found(wrong);
-            return Integer.MIN_VALUE;
+            return LEAST_INT;
         }
         return sheets[s].items[i];
     }
@@ -394,7 +397,7 @@ public final class DeepHole {
 
     /** A long answer may be any small negative number, so refusals stand at the far end of the longs. */
     private static long refusal(int code) {
-        return Long.MIN_VALUE - code;
+        return LEAST_LONG - code;
     }
 
     private int found(int number) {
@@ -559,12 +562,12 @@ public final class DeepHole {
 
         /** The pressure that the SHOE just bears; without a SHOE there is nothing to break. */
         long strength() {
-            return shoe > 0 ? (long) ground.fracOf(shoe - 1) * shoe : Long.MAX_VALUE;
+            return shoe > 0 ? (long) ground.fracOf(shoe - 1) * shoe : GREATEST_LONG;
         }
 
         /** Below every MUD where no PIECE is OPEN: then any SPEED is SAFE. */
         int heaviestPore() {
-            int heaviest = Integer.MIN_VALUE;
+            int heaviest = LEAST_INT;
             for (int i = shoe; i < depth; i++) {
                 heaviest = Math.max(heaviest, ground.poreOf(i));
             }
@@ -623,7 +626,7 @@ public final class DeepHole {
         private static final int ROW = PIECES + 1;
         /** A worth is cost times this and the number of strings: the least worth is the least cost, then the fewest. */
         private static final int COST = 8;
-        private static final int NO_WORTH = Integer.MAX_VALUE;
+        private static final int NO_WORTH = GREATEST_INT;
 
         final Ground ground;
         final Span muds = new Span();
@@ -897,7 +900,7 @@ public final class DeepHole {
 
         /** Whether there are two PLACES that count. Takes only what is nearer, so that like ones keep the least. */
         boolean find(Path one, Path other) {
-            square = Long.MAX_VALUE;
+            square = GREATEST_LONG;
             for (int i = 0; i <= one.stations; i++) {
                 for (int j = i == 0 ? 1 : 0; j <= other.stations; j++) {
                     long across = one.xs[i] - other.xs[j];
@@ -910,7 +913,7 @@ public final class DeepHole {
                     }
                 }
             }
-            return square != Long.MAX_VALUE;
+            return square != GREATEST_LONG;
         }
     }
 }

